@@ -621,7 +621,7 @@ public final class LetteredRock {
         boolean isLaidBefore(int place, int other) {
             int soft = letters[place].soft;
             int otherSoft = letters[other].soft;
-            return soft < otherSoft || soft == otherSoft && place < other;
+            return soft < otherSoft || (soft == otherSoft && place < other);
         }
 
         int placeInOrder(int i) {
@@ -720,7 +720,7 @@ public final class LetteredRock {
         static int upsideDown(int strip) {
             int flipped = 0;
             for (int bit = 0; bit < 5; bit++) {
-                flipped = flipped << 1 | strip >> bit & 1;
+                flipped = (flipped << 1) | ((strip >> bit) & 1);
             }
             return flipped;
         }

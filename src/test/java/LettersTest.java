@@ -59,6 +59,11 @@ public final class LettersTest {
         check.due("letter 16", x.letter(2, 2, 2), FULL);
         check.due("BAD comes ahead of FULL", x.letter(0, 2, 2), BAD);
         check.due("count(0)", x.count(0), 16);
+        check.due("the last letter", x.about(15, 0), 2);
+        check.due("about no letter behind", x.about(16, 0), BAD);
+        check.due("strip of no letter behind", x.strip(16, 0, 0), BAD);
+        check.due("spell the last letter", x.spell(0, 15), 1);
+        check.due("spell no letter behind", x.spell(0, 16), BAD);
     }
 
     private static void letterRefusals() {

@@ -124,7 +124,9 @@ public final class LumpsTest {
         check.due("count(4)", x.count(4), 40);
         check.due("the last lump", x.made(39, 2), 39);
         check.due("no lump behind", x.made(40, 2), BAD);
+        check.due("the first stick", x.trace(0), 0);
         check.due("the last stick", x.trace(159), 39);
+        check.due("no stick behind", x.trace(160), BAD);
     }
 
     private static void madeDue(LetteredRock x, int lump, int... want) {
