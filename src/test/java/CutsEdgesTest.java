@@ -33,6 +33,7 @@ public final class CutsEdgesTest {
         readingThatIsNot();
         readingIsBadAheadOfNull();
         wordsAsBits();
+        wordsOfOneReading();
         wordsRefused();
         check.end();
     }
@@ -391,6 +392,22 @@ public final class CutsEdgesTest {
         check.due("word 0 does not fit any more", x.words(0), 254);
         x.put(0, 0, 0, 31);
         check.due("a strip that no word has", x.words(0), 0);
+    }
+
+    private static void wordsOfOneReading() {
+        check.sentence(14, "The WORDS that have a READING, as bits.");
+        LetteredRock x = withWord(2, 0);
+        spell(x, 5, 0, 1);
+        x.slots(8);
+        fill(x, 0, 0, 1, 2, 3, 4, 5, 0, 16, 0);
+        check.due("one reading of word 5 alone", x.readings(0), 1);
+        check.due("words(0)", x.words(0), 32);
+        x.put(0, 0, 6, 0);
+        check.due("one reading of word 2 alone", x.readings(0), 1);
+        check.due("words(0)", x.words(0), 4);
+        x.put(0, 0, 6, -1);
+        check.due("that strip being lost, one of each", x.readings(0), 2);
+        check.due("words(0)", x.words(0), 36);
     }
 
     private static void wordsRefused() {

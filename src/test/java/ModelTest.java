@@ -1,10 +1,9 @@
-import java.lang.reflect.Method;
 import java.util.Arrays;
 import java.util.Random;
 
 /** Long runs of mixed calls, ordinary and wrong ones: the class answers as PlainRock does. */
 public final class ModelTest {
-    private static final int RUNS = 600, CALLS = 400;
+    private static final int RUNS = 600, CALLS_OF_AN_OBJECT = 512;
     private static final int MIN = Integer.MIN_VALUE, MAX = Integer.MAX_VALUE;
     private static final int[] FAR = {MIN, MIN + 1, MIN + 9, -100, 100, 1 << 16, MAX - 1, MAX};
 
@@ -45,11 +44,11 @@ public final class ModelTest {
         if (run % 2 == 0) {
             stockUp();
         }
-        while (asked < CALLS) {
+        while (asked < CALLS_OF_AN_OBJECT - 3) {
             Object[] row = pick();
             ask((String) row[0], numbersFor(row));
         }
-        check.due("run " + run + ": digest() in the end", rock.digest(), plain.digest());
+        ask("digest");
     }
 
     private void stockUp() throws ReflectiveOperationException {
@@ -82,16 +81,21 @@ public final class ModelTest {
         int turn = random.nextInt(slots);
         int look = random.nextInt(4);
         for (int i = 0; i < slots; i++) {
-            long strip = answer(plain, "cut", word, turn, look, i);
+            long strip = Calls.answer(plain, "cut", word, turn, look, i);
             ask("put", s, form, i, random.nextInt(3) == 0 ? 99 : (int) strip);
         }
     }
 
     private void ask(String name, int... numbers) throws ReflectiveOperationException {
         String call = "run " + run + ", call " + asked + ": " + name + Arrays.toString(numbers);
-        check.due(call, answer(rock, name, numbers), answer(plain, name, numbers));
-        check.due("count(6) behind " + call, rock.count(6), plain.count(6));
+        long want = Calls.answer(plain, name, numbers);
+        check.due(call, Calls.answer(rock, name, numbers), want);
         asked++;
+        // The findings are told by count(6) alone, behind a get() above all.
+        if (want <= -10 || name.equals("digest")) {
+            check.due("count(6) behind " + call, rock.count(6), plain.count(6));
+            asked++;
+        }
     }
 
     private static Object[] pick() {
@@ -131,27 +135,5 @@ public final class ModelTest {
         }
         int width = most - least + 1;
         return least + random.nextInt(random.nextBoolean() ? Math.min(width, 6) : width);
-    }
-
-    private static long answer(Object target, String name, int... numbers) throws ReflectiveOperationException {
-        for (Method method : target.getClass().getDeclaredMethods()) {
-            if (method.getName().equals(name)) {
-                return ((Number) method.invoke(target, arguments(method, numbers))).longValue();
-            }
-        }
-        throw new NoSuchMethodException(name);
-    }
-
-    private static Object[] arguments(Method method, int[] numbers) {
-        Object[] arguments = new Object[numbers.length];
-        for (int k = 0; k < numbers.length; k++) {
-            boolean isFlag = method.getParameterTypes()[k] == boolean.class;
-            if (isFlag) {
-                arguments[k] = numbers[k] != 0;
-            } else {
-                arguments[k] = numbers[k];
-            }
-        }
-        return arguments;
     }
 }

@@ -253,7 +253,7 @@ public final class RefusalsTest {
         check.sentence(10, "then the least number; NONE.");
         refused("longest()", x -> x.longest(), 1);
         check.sentence(22, "How many are RECALLED.");
-        refused("recall(NONE, 0, 999)", x -> x.recall(-1, 0, 999), 160);
+        refused("recall(NONE, 0, 999)", x -> x.recall(LetteredRock.NONE, 0, 999), 160);
         check.sentence(26, "3 the first WEEK that is SHORT (NONE)");
         refused("stock(0, 51, 100000, 3)", x -> x.stock(0, 51, 100000, 3), LetteredRock.NONE);
         check.sentence(32, "n items of SHEET s");

@@ -42,8 +42,8 @@ public final class SheetsTest {
     }
 
     private static void sheetsAreNewRows() {
-        LetteredRock x = new LetteredRock();
         for (int form = 0; form <= 2; form++) {
+            LetteredRock x = new LetteredRock();
             for (int s = 0; s < 4; s++) {
                 check.due("sheet of 60", x.sheet(s, form, 60), 60);
                 rowDue(x, s, form, new int[60]);
@@ -53,7 +53,7 @@ public final class SheetsTest {
                 rowDue(x, s, form);
             }
         }
-        fill(x, 0, 0, 1, 2, 3);
+        LetteredRock x = withRow(0, 0, 1, 2, 3);
         check.due("a new row", x.sheet(0, 0, 2), 2);
         rowDue(x, 0, 0, 0, 0);
         check.due("a longer row", x.sheet(0, 2, 4), 4);
