@@ -24,6 +24,8 @@ public final class LetteredRock {
     private static final int MOST_STOCK = 100000;
     private static final int SHEET_COUNT = 4;
     private static final int MOST_ITEMS = 60;
+    private static final int LEAST_INT = -2147483648;
+    private static final int GREATEST_INT = 2147483647;
 
     private static final int BYTES = 0, SHORTS = 1, INTS = 2;
     private static final int NULL = 1, INDEX = 2, CAST = 3, STORE = 4, SIZE = 5;
@@ -433,7 +435,7 @@ public final class LetteredRock {
     }
 
     public int get(int s, int form, int i) {
-        return troubleOfItem(s, form, i) != 0 ? Integer.MIN_VALUE : sheetRow[s].items[i];
+        return troubleOfItem(s, form, i) != 0 ? LEAST_INT : sheetRow[s].items[i];
     }
 
     public int copy(int s, int i, int t, int j, int n) {
@@ -548,7 +550,7 @@ public final class LetteredRock {
     }
 
     private static int atMostInt(long v) {
-        return (int) Math.min(v, (long) Integer.MAX_VALUE);
+        return (int) Math.min(v, (long) GREATEST_INT);
     }
 
     private Letter letterAt(int letter) {
